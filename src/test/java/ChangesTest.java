@@ -5,6 +5,7 @@ public final class ChangesTest {
         noChange();
         eightChanges();
         newChangeAfterUndo();
+        refusedAfterEight();
         snapshot();
         notCovered();
         Check.end();
@@ -108,6 +109,21 @@ public final class ChangesTest {
         Check.same("49: back again", 27, p.limit());
         Check.same("49: further back", 4, p.undo());
         Check.same("49: an older one", 26, p.limit());
+    }
+
+    private static void refusedAfterEight() {
+        CoolingPlanner p = new CoolingPlanner();
+        for (int limit = 21; limit <= 28; limit++) {
+            p.setLimit(limit);
+        }
+        Check.refused("9: refused", Check.ARGUMENT, () -> p.setLimit(61));
+        Check.refused("46: refused", Check.STATE, () -> Check.run(p, "limit 50;limit 61"));
+        for (int left = 7; left >= 0; left--) {
+            Check.same("49: left", left, p.undo());
+        }
+        Check.same("49: the state before the eight", 27, p.limit());
+        Check.refused("9: refused again", Check.ARGUMENT, () -> p.setLimit(61));
+        Check.refused("49: nothing left", Check.ELEMENT, () -> p.undo());
     }
 
     private static void snapshot() {

@@ -56,6 +56,13 @@ public final class TemperaturesTest {
         Check.same("23: below the greatest rise", 2.5f * 3f / 0.2f, p.rise(0));
         p.setLoad(0, 4);
         Check.same("23: the greatest rise", 40.0f, p.rise(0));
+        p.setCurvePoint(1, 6);
+        p.setLoad(0, 19);
+        Check.same("23: just below the greatest rise", 2.5f * 19f / 1.2f, p.rise(0));
+        p.setCurvePoint(1, 8);
+        p.setLoad(0, 20);
+        p.addRack(0, 1, 6);
+        Check.same("23: just above the greatest rise", 40.0f, p.rise(0));
         Check.refused("23: aisle -1", Check.INDEX, () -> p.rise(-1));
         Check.refused("23: aisle 4", Check.INDEX, () -> p.rise(4));
     }
