@@ -11,43 +11,16 @@ public final class ChangesTest {
         Check.end();
     }
 
-    /** All that undo and the snapshot cover, as one text. */
-    private static String state(CoolingPlanner p) {
-        StringBuilder text = new StringBuilder();
-        for (int rack = 0; rack < p.rackCount(); rack++) {
-            text.append(p.aisleOf(rack)).append('.').append(p.placeOf(rack)).append(':').append(p.load(rack));
-            text.append(' ');
-        }
-        for (int aisle = 0; aisle < 4; aisle++) {
-            text.append(p.fanSpeed(aisle)).append('/').append(p.storedHeat(aisle)).append(' ');
-        }
-        for (int point = 0; point < 3; point++) {
-            text.append(p.curvePoint(point)).append(' ');
-        }
-        text.append(p.limit()).append(' ').append(p.minute()).append(' ').append(p.madeTotal()).append(' ');
-        return text.append(p.carriedTotal()).append(' ').append(p.energyTotal()).toString();
-    }
-
-    private static CoolingPlanner busy() {
-        CoolingPlanner p = new CoolingPlanner();
-        p.addRack(0, 0, 5);
-        p.addRack(1, 1, 7);
-        p.addRack(2, 2, 20);
-        p.setFan(2, 1);
-        p.advance(3);
-        return p;
-    }
-
     private static void undone(String what, CoolingPlanner p, Check.Call change) {
-        String before = state(p);
+        String before = Planners.state(p);
         change.answer();
-        Check.same("49: " + what + " changes something", false, state(p).equals(before));
+        Check.same("49: " + what + " changes something", false, Planners.state(p).equals(before));
         Check.same("49: undo of " + what, 5, p.undo());
-        Check.same("49: as before " + what, before, state(p));
+        Check.same("49: as before " + what, before, Planners.state(p));
     }
 
     private static void everyChange() {
-        CoolingPlanner p = busy();
+        CoolingPlanner p = Planners.busy();
         undone("addRack", p, () -> p.addRack(3, 3, 3));
         undone("removeRack", p, () -> p.removeRack(0));
         undone("moveRack", p, () -> p.moveRack(1, 0, 5));
@@ -130,9 +103,9 @@ public final class ChangesTest {
         CoolingPlanner p = new CoolingPlanner();
         Check.refused("51: no snapshot", Check.STATE, () -> p.restore());
         Check.same("50: no racks", 0, p.save());
-        CoolingPlanner q = busy();
+        CoolingPlanner q = Planners.busy();
         Check.same("50: racks", 3, q.save());
-        String saved = state(q);
+        String saved = Planners.state(q);
         q.removeRack(0);
         q.moveRack(0, 3, 3);
         q.setLoad(0, 19);
@@ -142,12 +115,12 @@ public final class ChangesTest {
         q.advance(9);
         q.undo();
         Check.same("51: racks", 3, q.restore());
-        Check.same("51: as saved", saved, state(q));
+        Check.same("51: as saved", saved, Planners.state(q));
         Check.refused("51: nothing to undo", Check.ELEMENT, () -> q.undo());
-        Check.same("51: still as saved", saved, state(q));
+        Check.same("51: still as saved", saved, Planners.state(q));
         q.addRack(3, 3, 3);
         Check.same("51: kept, and again", 3, q.restore());
-        Check.same("51: as saved again", saved, state(q));
+        Check.same("51: as saved again", saved, Planners.state(q));
         q.addRack(3, 3, 3);
         Check.same("50: replaced", 4, q.save());
         Check.same("50: not a change", 0, q.undo());

@@ -20,6 +20,11 @@ final class Check {
         Object answer();
     }
 
+    /** A call with the argument whose bounds are checked. */
+    interface IntCall {
+        Object answer(int argument);
+    }
+
     static void same(String what, Object due, Object answer) {
         checks++;
         if (!due.equals(answer)) {
@@ -29,13 +34,35 @@ final class Check {
     }
 
     static void refused(String what, Class<? extends RuntimeException> due, Call call) {
-        Object answer;
+        same(what, due, answerOf(call));
+    }
+
+    /** The least argument that is allowed, with its answer; one less, and the least of all, are refused. */
+    static void lowest(String what, int bound, Object answer, Class<? extends RuntimeException> due, IntCall call) {
+        allowed(what, bound, answer, call);
+        refused(what + " " + (bound - 1), due, () -> call.answer(bound - 1));
+        refused(what + " of the least int", due, () -> call.answer(Integer.MIN_VALUE));
+    }
+
+    /** The greatest argument that is allowed, with its answer; one more, and the greatest of all, are refused. */
+    static void highest(String what, int bound, Object answer, Class<? extends RuntimeException> due, IntCall call) {
+        allowed(what, bound, answer, call);
+        refused(what + " " + (bound + 1), due, () -> call.answer(bound + 1));
+        refused(what + " of the greatest int", due, () -> call.answer(Integer.MAX_VALUE));
+        refused(what + " of 65536 more", due, () -> call.answer(bound + 65536));
+    }
+
+    private static void allowed(String what, int argument, Object due, IntCall call) {
+        same(what + " " + argument, due, answerOf(() -> call.answer(argument)));
+    }
+
+    /** The answer of a call, or the class of what it throws. */
+    static Object answerOf(Call call) {
         try {
-            answer = call.answer();
+            return call.answer();
         } catch (RuntimeException e) {
-            answer = e.getClass();
+            return e.getClass();
         }
-        same(what, due, answer);
     }
 
     static void type(CoolingPlanner planner, String text) {
