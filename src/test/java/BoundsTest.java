@@ -200,25 +200,15 @@ public final class BoundsTest {
         return p.fanSpeed(3);
     }
 
-    private static CoolingPlanner withCurve(int atZero, int atFive, int atTen) {
-        CoolingPlanner p = new CoolingPlanner();
-        p.setCurvePoint(2, 200);
-        p.setCurvePoint(1, 200);
-        p.setCurvePoint(0, atZero);
-        p.setCurvePoint(1, atFive);
-        p.setCurvePoint(2, atTen);
-        return p;
-    }
-
     private static void points() {
         Check.lowest("8: setCurvePoint, point", 0, 50, Check.INDEX, point -> flat(50).setCurvePoint(point, 50));
         Check.highest("8: setCurvePoint, point", 2, 50, Check.INDEX, point -> flat(50).setCurvePoint(point, 50));
-        Check.lowest("20: curvePoint", 0, 3, Check.INDEX, point -> withCurve(3, 4, 5).curvePoint(point));
-        Check.highest("20: curvePoint", 2, 5, Check.INDEX, point -> withCurve(3, 4, 5).curvePoint(point));
+        Check.lowest("20: curvePoint", 0, 3, Check.INDEX, point -> Planners.withCurve(3, 4, 5).curvePoint(point));
+        Check.highest("20: curvePoint", 2, 5, Check.INDEX, point -> Planners.withCurve(3, 4, 5).curvePoint(point));
     }
 
     private static CoolingPlanner flat(int airflow) {
-        return withCurve(airflow, airflow, airflow);
+        return Planners.withCurve(airflow, airflow, airflow);
     }
 
     private static void airflows() {
@@ -229,8 +219,8 @@ public final class BoundsTest {
             Check.highest("8: setCurvePoint " + point, 200, 200, Check.ARGUMENT,
                     airflow -> airflowSet(flat(200), point, airflow));
         }
-        Check.same("8: the whole range at once", 200, airflowSet(withCurve(0, 0, 0), 2, 200));
-        Check.same("8: and back", 0, airflowSet(withCurve(0, 0, 200), 2, 0));
+        Check.same("8: the whole range at once", 200, airflowSet(Planners.withCurve(0, 0, 0), 2, 200));
+        Check.same("8: and back", 0, airflowSet(Planners.withCurve(0, 0, 200), 2, 0));
     }
 
     private static int airflowSet(CoolingPlanner p, int point, int airflow) {
@@ -239,7 +229,7 @@ public final class BoundsTest {
     }
 
     private static void airflowsBetweenNeighbours() {
-        Supplier<CoolingPlanner> curve = () -> withCurve(10, 50, 80);
+        Supplier<CoolingPlanner> curve = () -> Planners.withCurve(10, 50, 80);
         Check.same("8: point 0 as point 1", 50, airflowSet(curve.get(), 0, 50));
         Check.refused("8: point 0 above point 1", Check.UNSUPPORTED, () -> airflowSet(curve.get(), 0, 51));
         Check.refused("8: point 0 far above", Check.UNSUPPORTED, () -> airflowSet(curve.get(), 0, 200));

@@ -1,3 +1,5 @@
+import java.util.function.Function;
+
 /** Promises 49 to 51: undo and the snapshot. */
 public final class ChangesTest {
     public static void main(String[] args) {
@@ -11,26 +13,26 @@ public final class ChangesTest {
         Check.end();
     }
 
-    private static void undone(String what, CoolingPlanner p, Check.Call change) {
+    private static void undone(String what, Function<CoolingPlanner, Object> change) {
+        CoolingPlanner p = Planners.busy();
         String before = Planners.state(p);
-        change.answer();
+        change.apply(p);
         Check.same("49: " + what + " changes something", false, Planners.state(p).equals(before));
         Check.same("49: undo of " + what, 5, p.undo());
         Check.same("49: as before " + what, before, Planners.state(p));
     }
 
     private static void everyChange() {
-        CoolingPlanner p = Planners.busy();
-        undone("addRack", p, () -> p.addRack(3, 3, 3));
-        undone("removeRack", p, () -> p.removeRack(0));
-        undone("moveRack", p, () -> p.moveRack(1, 0, 5));
-        undone("setLoad", p, () -> p.setLoad(0, 6));
-        undone("migrate", p, () -> p.migrate(0, 1, 2));
-        undone("setFan", p, () -> p.setFan(3, 9));
-        undone("setCurvePoint", p, () -> p.setCurvePoint(0, 3));
-        undone("setLimit", p, () -> p.setLimit(44));
-        undone("advance", p, () -> p.advance(8));
-        undone("runScript", p, () -> Check.run(p, "drop 0;wait"));
+        undone("addRack", p -> p.addRack(3, 3, 3));
+        undone("removeRack", p -> p.removeRack(0));
+        undone("moveRack", p -> p.moveRack(1, 0, 5));
+        undone("setLoad", p -> p.setLoad(0, 6));
+        undone("migrate", p -> p.migrate(0, 1, 2));
+        undone("setFan", p -> p.setFan(3, 9));
+        undone("setCurvePoint", p -> p.setCurvePoint(0, 3));
+        undone("setLimit", p -> p.setLimit(44));
+        undone("advance", p -> p.advance(8));
+        undone("runScript", p -> Check.run(p, "drop 0;wait"));
     }
 
     private static void noChange() {

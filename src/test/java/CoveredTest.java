@@ -234,13 +234,13 @@ public final class CoveredTest {
     }
 
     private static void snapshotIsKept() {
-        CoolingPlanner p = savedBusy();
-        String saved = Planners.state(p);
+        String saved = Planners.state(Planners.busy());
         for (Change change : Change.values()) {
-            Check.same("51: before " + change, 3, p.restore());
-            Check.same("51: as saved, before " + change, saved, Planners.state(p));
-            if (change != Change.RUN_LONG_SCRIPT) {
+            CoolingPlanner p = savedBusy();
+            for (int times = 1; times <= 3; times++) {
                 change.call.apply(p);
+                Check.same("51: racks, before " + change + " " + times, 3, p.restore());
+                Check.same("51: as saved, before " + change + " " + times, saved, Planners.state(p));
             }
         }
     }

@@ -75,6 +75,17 @@ final class Planners {
         return p;
     }
 
+    /** No racks, and a curve with these airflows; five changes. */
+    static CoolingPlanner withCurve(int atZero, int atFive, int atTen) {
+        CoolingPlanner p = new CoolingPlanner();
+        p.setCurvePoint(2, 200);
+        p.setCurvePoint(1, 200);
+        p.setCurvePoint(0, atZero);
+        p.setCurvePoint(1, atFive);
+        p.setCurvePoint(2, atTen);
+        return p;
+    }
+
     static CoolingPlanner withFansAt(CoolingPlanner p, int speed) {
         for (int aisle = 0; aisle < 4; aisle++) {
             p.setFan(aisle, speed);

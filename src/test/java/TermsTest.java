@@ -27,20 +27,10 @@ public final class TermsTest {
         Check.end();
     }
 
-    private static CoolingPlanner withCurve(int atZero, int atFive, int atTen) {
-        CoolingPlanner p = new CoolingPlanner();
-        p.setCurvePoint(2, 200);
-        p.setCurvePoint(1, 200);
-        p.setCurvePoint(0, atZero);
-        p.setCurvePoint(1, atFive);
-        p.setCurvePoint(2, atTen);
-        return p;
-    }
-
     private static void airflowsUpToFive() {
         for (int a = 0; a <= 200; a++) {
             for (int b = a; b <= 200; b++) {
-                CoolingPlanner p = withCurve(a, b, 200);
+                CoolingPlanner p = Planners.withCurve(a, b, 200);
                 for (int s = 0; s <= 5; s++) {
                     Check.same("21: " + a + " to " + b + " at " + s, a + (float) (b - a) * s / 5.0f, p.airflowAt(s));
                 }
@@ -51,7 +41,7 @@ public final class TermsTest {
     private static void airflowsAboveFive() {
         for (int b = 0; b <= 200; b++) {
             for (int c = b; c <= 200; c++) {
-                CoolingPlanner p = withCurve(0, b, c);
+                CoolingPlanner p = Planners.withCurve(0, b, c);
                 for (int s = 6; s <= 10; s++) {
                     float due = b + (float) (c - b) * (s - 5) / 5.0f;
                     Check.same("21: " + b + " to " + c + " at " + s, due, p.airflowAt(s));
@@ -62,15 +52,15 @@ public final class TermsTest {
 
     private static void airflowsOfFlatCurves() {
         for (int airflow : new int[] {0, 1, 199, 200}) {
-            CoolingPlanner p = withCurve(airflow, airflow, airflow);
+            CoolingPlanner p = Planners.withCurve(airflow, airflow, airflow);
             for (int speed = 0; speed <= 10; speed++) {
                 Check.same("21: always " + airflow, (float) airflow, p.airflowAt(speed));
             }
         }
-        CoolingPlanner p = withCurve(0, 0, 200);
+        CoolingPlanner p = Planners.withCurve(0, 0, 200);
         Check.same("21: the last speed of the first part", 0.0f, p.airflowAt(5));
         Check.same("21: the first speed of the second part", 40.0f, p.airflowAt(6));
-        CoolingPlanner q = withCurve(0, 200, 200);
+        CoolingPlanner q = Planners.withCurve(0, 200, 200);
         Check.same("21: just below the middle", 160.0f, q.airflowAt(4));
         Check.same("21: the middle", 200.0f, q.airflowAt(5));
     }
@@ -107,7 +97,7 @@ public final class TermsTest {
     }
 
     private static void risesWithoutAirflow() {
-        CoolingPlanner p = withCurve(0, 0, 1);
+        CoolingPlanner p = Planners.withCurve(0, 0, 1);
         p.addRack(1, 3, 1);
         for (int speed = 0; speed <= 5; speed++) {
             p.setFan(1, speed);
@@ -125,7 +115,7 @@ public final class TermsTest {
     private static void rises() {
         for (int heat = 1; heat <= 40; heat++) {
             for (int airflow = 1; airflow <= 200; airflow++) {
-                CoolingPlanner p = withCurve(0, airflow, 200);
+                CoolingPlanner p = Planners.withCurve(0, airflow, 200);
                 p.addRack(2, 0, heat / 2);
                 p.addRack(2, 5, heat - heat / 2);
                 float rise = 2.5f * heat / airflow;
@@ -135,13 +125,26 @@ public final class TermsTest {
     }
 
     private static void greatestRise() {
-        CoolingPlanner p = withCurve(0, 1, 200);
+        CoolingPlanner p = Planners.withCurve(0, 1, 200);
         p.addRack(3, 0, 15);
         Check.same("23: one kilowatt less", 37.5f, p.rise(3));
         p.setLoad(0, 16);
         Check.same("23: just 40", 40.0f, p.rise(3));
         p.setLoad(0, 17);
         Check.same("23: no more than 40", 40.0f, p.rise(3));
+        Check.same("23: as near below 40 as can be", 2.5f * 115f / 7.2f, riseOf(115, 9, 4));
+        Check.same("23: as near above 40 as can be", 40.0f, riseOf(109, 17, 2));
+    }
+
+    /** The rise by so many kilowatts in six racks, at a speed of up to 5 on a curve from 0 to the middle point. */
+    private static float riseOf(int heat, int middle, int speed) {
+        CoolingPlanner p = Planners.withCurve(0, middle, 200);
+        for (int place = 0; place < 6; place++) {
+            p.addRack(0, place, (heat + place) / 6);
+        }
+        Check.same("16: heat", heat, p.heat(0));
+        p.setFan(0, speed);
+        return p.rise(0);
     }
 
     private static void temperatures() {
@@ -167,7 +170,7 @@ public final class TermsTest {
 
     /** The airflow is the speed, the rise 2.5 degrees for each kilowatt at the speed 1. */
     private static CoolingPlanner gentle(int load) {
-        CoolingPlanner p = withCurve(0, 5, 10);
+        CoolingPlanner p = Planners.withCurve(0, 5, 10);
         p.addRack(0, 0, load);
         return p;
     }
@@ -199,7 +202,7 @@ public final class TermsTest {
     /** The airflow at speed 4 is four fifths of the curve's middle point. */
     private static void airflowRoundedDown() {
         for (int middle = 0; middle <= 26; middle++) {
-            CoolingPlanner p = withCurve(0, middle, 200);
+            CoolingPlanner p = Planners.withCurve(0, middle, 200);
             p.addRack(2, 0, 20);
             p.setFan(2, 4);
             p.advance(1);
@@ -213,7 +216,7 @@ public final class TermsTest {
     private static void carriedAway() {
         for (int load = 0; load <= 20; load += 5) {
             for (int airflow = 0; airflow <= 50; airflow++) {
-                CoolingPlanner p = withCurve(0, airflow, 200);
+                CoolingPlanner p = Planners.withCurve(0, airflow, 200);
                 p.addRack(1, 0, 10);
                 p.setFan(1, 0);
                 p.advance(1);
